@@ -550,10 +550,6 @@ public final class LadderClimb {
             if (slope > 0) {
                 greatest = Math.min(greatest, Math.floorDiv(groundRoom(), slope));
             }
-            if (slope == 0 && groundRoom() < 0) {
-                // The ground gives way by every f: below any least one.
-                greatest = -MOST_FORCE - 1;
-            }
             return greatest;
         }
 
@@ -574,7 +570,10 @@ public final class LadderClimb {
             return divisor > 0 ? -Math.floorDiv(percents * moment(), divisor) : -MOST_FORCE;
         }
 
-        /** The ground asks groundSlope() f <= groundRoom(). */
+        /**
+         * The ground asks groundSlope() f <= groundRoom(). With a slope of 0 it holds by
+         * every f: the moment is at most 10 base load, so that there is room then.
+         */
         private int groundSlope() {
             return 10 * height * groundPercents() - 1000 * base;
         }
