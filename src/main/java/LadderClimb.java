@@ -522,9 +522,9 @@ public final class LadderClimb {
         }
 
         /**
-         * How many f hold the ladder. Each condition is a straight line in f on
-         * either side of 0 and the wall's bends at 0 the right way, so these f are
-         * all those from leastForce() to greatestForce(): no search is needed.
+         * How many f hold the ladder. Each condition is a straight line in f on either
+         * side of 0, and the wall's bends at 0 the right way, so these f are all those
+         * from leastForce() to greatestForce(): no search is needed.
          */
         int forces() {
             return Math.max(0, greatestForce() - leastForce() + 1);
@@ -535,26 +535,16 @@ public final class LadderClimb {
         }
 
         int leastForce() {
-            int least = Math.max(-MOST_FORCE, leastByWall());
-            int slope = groundSlope();
-            if (slope < 0) {
-                least = Math.max(least, -Math.floorDiv(groundRoom(), -slope));
-            }
-            return least;
+            return Math.max(-MOST_FORCE, Math.max(leastByWall(), leastByGround()));
         }
 
-        /** No line for a push of 0 or more: a wall that holds has such a push already. */
+        /**
+         * For f of 0 or more the wall asks (1000 height + 10 base percents) f <= percents moment.
+         * Nothing else bounds f from above: nobody stands higher than the step 10, so the
+         * moment is at most 10 base load, and such an f is below the load, with a push of
+         * 0 or more and, where the ground's slope is not below 0, with a ground that holds.
+         */
         int greatestForce() {
-            int greatest = Math.min(MOST_FORCE, Math.min(load(), greatestByWall()));
-            int slope = groundSlope();
-            if (slope > 0) {
-                greatest = Math.min(greatest, Math.floorDiv(groundRoom(), slope));
-            }
-            return greatest;
-        }
-
-        /** For f of 0 or more the wall asks (1000 height + 10 base percents) f <= percents moment. */
-        private int greatestByWall() {
             int percents = wallPercents();
             int divisor = 1000 * height + 10 * base * percents;
             return divisor > 0 ? Math.floorDiv(percents * moment(), divisor) : 0;
@@ -570,16 +560,11 @@ public final class LadderClimb {
             return divisor > 0 ? -Math.floorDiv(percents * moment(), divisor) : -MOST_FORCE;
         }
 
-        /**
-         * The ground asks groundSlope() f <= groundRoom(). With a slope of 0 it holds by
-         * every f: the moment is at most 10 base load, so that there is room then.
-         */
-        private int groundSlope() {
-            return 10 * height * groundPercents() - 1000 * base;
-        }
-
-        private int groundRoom() {
-            return 10 * height * (groundPercents() * load() + 100 * rope) - 100 * moment();
+        /** The ground asks slope f <= room. */
+        private int leastByGround() {
+            int slope = 10 * height * groundPercents() - 1000 * base;
+            int room = 10 * height * (groundPercents() * load() + 100 * rope) - 100 * moment();
+            return slope < 0 ? -Math.floorDiv(room, -slope) : -MOST_FORCE;
         }
 
         private int groundPercents() {
@@ -719,7 +704,6 @@ public final class LadderClimb {
 
         void clear() {
             length = 0;
-            cursor = 0;
         }
 
         int codeAt(int index) {

@@ -7,6 +7,8 @@ public final class LooksTest {
         forceTells();
         forceOfOneThatSlips();
         heldTells();
+        groundsHold();
+        wallsHold();
         countTells();
         Check.end();
     }
@@ -130,6 +132,48 @@ public final class LooksTest {
         Check.badArgument(x, "held(0, -1001)", () -> x.held(0, -1001));
         Check.badArgument(x, "held(0, 1001)", () -> x.held(0, 1001));
         Check.badArgument(x, "held(0, least int)", () -> x.held(0, Integer.MIN_VALUE));
+    }
+
+    private static void heldOf(int base, int height, int weight, int ground, int wall, int f, int want) {
+        LadderClimb x = new LadderClimb();
+        x.put(3, base, height, weight);
+        x.kinds(3, ground, wall);
+        Check.due("held by " + f + " of " + base + " " + height + " " + weight + " " + ground + " " + wall,
+                want, x.held(3, f));
+    }
+
+    /** An empty ladder, f 0: 500 base * weight is at most 10 height * percents * weight, just so. */
+    private static void groundsHold() {
+        heldOf(10, 100, 7, 0, 2, 0, 0);
+        heldOf(10, 99, 7, 0, 2, 0, 8);
+        heldOf(50, 100, 100, 1, 2, 0, 0);
+        heldOf(50, 99, 100, 1, 2, 0, 8);
+        heldOf(100, 125, 3, 2, 2, 0, 0);
+        heldOf(100, 124, 3, 2, 2, 0, 8);
+        heldOf(60, 50, 1, 3, 2, 0, 0);
+        heldOf(61, 50, 1, 3, 2, 0, 8);
+        LadderClimb x = new LadderClimb();
+        x.put(0, 100, 50, 100);
+        x.kinds(0, 0, 2);
+        x.rope(0, 95);
+        Check.due("held by a rope of 95", 0, x.held(0, 0));
+        x.rope(0, 94);
+        Check.due("held by a rope of 94", 8, x.held(0, 0));
+    }
+
+    /** 1000 height * f is at most percents * push, just so; one less of weight is too light. */
+    private static void wallsHold() {
+        heldOf(100, 50, 100, 3, 0, -1, 10);
+        heldOf(50, 300, 100, 3, 0, -1, 2);
+        heldOf(10, 50, 52, 3, 1, 1, 0);
+        heldOf(10, 50, 51, 3, 1, 1, 2);
+        heldOf(10, 90, 84, 3, 2, 2, 0);
+        heldOf(10, 90, 83, 3, 2, 2, 2);
+        heldOf(10, 60, 88, 3, 3, 4, 0);
+        heldOf(10, 60, 87, 3, 3, 4, 2);
+        // With 10 f = weight * 5 the push is 0, which is not below 0 yet.
+        heldOf(10, 50, 2, 3, 0, 1, 2);
+        heldOf(10, 50, 2, 3, 0, 2, 3);
     }
 
     private static void countTells() {

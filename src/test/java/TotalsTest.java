@@ -4,6 +4,7 @@ public final class TotalsTest {
     public static void main(String[] args) {
         safetyTells();
         digestTells();
+        digestTellsHeld();
         digestOfEachShare();
         Check.end();
     }
@@ -54,6 +55,19 @@ public final class TotalsTest {
         Check.due("digest again", hash(x, "0x;!~"), x.digest());
         Check.due("digest is another", 1, before == x.digest() ? 0 : 1);
         Check.due("digest changes nothing", 5, x.clearBuffer());
+    }
+
+    /** On the ladder 0 the f of -10 to 9 hold: held by -10, 0 and 10 are not alike. */
+    private static void digestTellsHeld() {
+        LadderClimb x = new LadderClimb();
+        x.kinds(0, 2, 1);
+        x.on(0, 140);
+        x.climb(0, 0, 10);
+        Check.due("held by -11", 2, x.held(0, -11));
+        Check.due("held by -10", 0, x.held(0, -10));
+        Check.due("held by 9", 0, x.held(0, 9));
+        Check.due("held by 10", 2, x.held(0, 10));
+        Check.due("digest of those held", hash(x, ""), x.digest());
     }
 
     /** The bits of safety, which the class counts by itself, for many people who fell. */
