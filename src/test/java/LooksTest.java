@@ -159,6 +159,11 @@ public final class LooksTest {
         Check.due("held by a rope of 95", 0, x.held(0, 0));
         x.rope(0, 94);
         Check.due("held by a rope of 94", 8, x.held(0, 0));
+        x.put(0, 100, 100, 49);
+        x.rope(0, 22);
+        Check.due("held by a rope of 22", 8, x.held(0, 0));
+        x.rope(0, 23);
+        Check.due("held by a rope of 23", 0, x.held(0, 0));
     }
 
     /** 1000 height * f is at most percents * push, just so; one less of weight is too light. */
@@ -169,6 +174,8 @@ public final class LooksTest {
         heldOf(10, 50, 51, 3, 1, 1, 2);
         heldOf(10, 90, 84, 3, 2, 2, 0);
         heldOf(10, 90, 83, 3, 2, 2, 2);
+        heldOf(30, 50, 47, 3, 2, 5, 2);
+        heldOf(30, 50, 48, 3, 2, 5, 0);
         heldOf(10, 60, 88, 3, 3, 4, 0);
         heldOf(10, 60, 87, 3, 3, 4, 2);
         // With 10 f = weight * 5 the push is 0, which is not below 0 yet.
