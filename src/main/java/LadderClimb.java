@@ -628,10 +628,14 @@ public final class LadderClimb {
             if (rig.people == 0 || rig.stands()) {
                 return false;
             }
+            fall(rig);
+            return true;
+        }
+
+        private void fall(Rig rig) {
             fallen += rig.people;
             rig.falls++;
             rig.removeAll();
-            return true;
         }
 
         /** Lets someone climb; answers the step then, or NONE if the ladder fell on the way. */
@@ -642,7 +646,8 @@ public final class LadderClimb {
             for (int i = 1; i <= length; i++) {
                 rig.setStep(person, from + i * way);
                 climbed++;
-                if (fallsNow(rig)) {
+                if (!rig.stands()) {
+                    fall(rig);
                     return NONE;
                 }
             }
