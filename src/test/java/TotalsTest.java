@@ -73,10 +73,12 @@ public final class TotalsTest {
     /** The bits of safety, which the class counts by itself, for many people who fell. */
     private static void digestOfEachShare() {
         for (int fallen = 0; fallen <= 60; fallen++) {
-            LadderClimb x = onIce(fallen);
             for (int on = 0; on <= 9; on++) {
+                LadderClimb x = onIce(fallen);
+                for (int i = 0; i < on; i++) {
+                    x.on(i / 3, 20 + i);
+                }
                 Check.due("digest of " + on + " beside " + fallen + " fallen", hash(x, ""), x.digest());
-                x.on(on / 3, 20 + on);
             }
         }
     }
